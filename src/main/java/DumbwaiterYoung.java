@@ -651,6 +651,7 @@ public final class DumbwaiterYoung {
         private final int[] places = new int[MOST_TAPE + 1];
         // A NUMBER, a sign, or the letters of a word, eight bits each: a text would be an object for each word.
         private final long[] values = new long[MOST_TAPE + 1];
+        private final Word[] words = new Word[MOST_TAPE + 1];
         private int tokens;
         private int current;
         private boolean tooLong;
@@ -671,11 +672,11 @@ public final class DumbwaiterYoung {
                 } else if (isLetter(text[at]) || isDigit(text[at])) {
                     at = scanRun(text, at, length);
                 } else {
-                    add(isSign(text[at]) ? SIGN : NOTHING, at, text[at]);
+                    add(isSign(text[at]) ? SIGN : NOTHING, at, text[at], null);
                     at++;
                 }
             }
-            add(END, stop, 0);
+            add(END, stop, 0, null);
         }
 
         private int scanRun(int[] text, int from, int length) {
@@ -694,20 +695,22 @@ public final class DumbwaiterYoung {
                 }
             }
             if (digits == 0 && letters <= LONGEST_WORD) {
-                add(Word.find(packed) == null ? NAME : WORD, from, packed);
+                Word word = Word.find(packed);
+                add(word == null ? NAME : WORD, from, packed, word);
             } else if (letters == 0 && digits <= LONGEST_NUMBER) {
-                add(NUMBER, from, number);
+                add(NUMBER, from, number, null);
             } else {
-                add(NOTHING, from, 0);
+                add(NOTHING, from, 0, null);
             }
             return at;
         }
 
-        private void add(int kind, int place, long value) {
+        private void add(int kind, int place, long value, Word word) {
             if (tokens < kinds.length) {
                 kinds[tokens] = kind;
                 places[tokens] = place;
                 values[tokens] = value;
+                words[tokens] = word;
                 tokens++;
             }
         }
@@ -750,7 +753,7 @@ public final class DumbwaiterYoung {
         }
 
         boolean isWord(Word word) {
-            return kinds[current] == WORD && values[current] == word.packed;
+            return words[current] == word;
         }
 
         boolean isSignNow(char sign) {
@@ -764,10 +767,7 @@ public final class DumbwaiterYoung {
 
         /** What a SENTENCE can compare by the word here; NONE without such a word. */
         int subjectNow() {
-            if (kinds[current] != WORD) {
-                return NONE;
-            }
-            Word word = Word.find(values[current]);
+            Word word = words[current];
             return word == null ? NONE : word.subject;
         }
 

@@ -4,8 +4,10 @@ public final class BargainTest {
     private static final String[] GIFT = {"manners", "music", "faith", "letters"};
 
     private static void plainOnes() {
-        DumbwaiterYoung x = new DumbwaiterYoung();
+        DumbwaiterYoung x = Check.with("floor f music 1;child a 1;child b 1;");
         CHECK.due("31: ahead of any", x.bargained(0), -1);
+        CHECK.due("31: ahead of any", x.bargained(1), -1);
+        Check.tower(x, "");
         CHECK.due("30: an empty TOWER", x.bargain(), 0);
         Check.tower(x, "child a 1;child b 1;");
         CHECK.due("30: no FLOOR", x.bargain(), 0);

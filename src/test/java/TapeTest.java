@@ -12,6 +12,10 @@ public final class TapeTest {
         for (int what = 0; what < 8; what++) {
             check.due("1: now(" + what + ")", x.now(what), 0);
         }
+        check.due("1: nothing to undo", x.undo(), -1);
+        check.due("1: no SENTENCE", x.said(-1), -1);
+        check.due("1: an empty BOOK is fine", x.book(0), -1);
+        check.due("1: an empty TOWER", x.tower(), 0);
     }
 
     private static void feedAndEnd(Check check) {

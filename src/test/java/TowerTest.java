@@ -165,7 +165,9 @@ public final class TowerTest {
         y.hang(1);
         y.hours(5);
         y.send(2, 4);
-        y.send(1, 4);
+        y.send(1, 3);
+        y.send(1, 0);
+        check.yes("the rope ran ahead of that", y.now(2) > 0 && Check.child(y, 0, 4) + Check.child(y, 1, 4) > 0);
         check.due("4: the same TOWER, new", Check.tower(y, Check.HOUSE), 15);
         check.yes("4: all is new", Check.all(y).equals(Check.all(Check.with(Check.HOUSE))));
         check.due("4: no SENTENCE", y.said(-1), -1);
