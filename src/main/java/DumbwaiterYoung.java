@@ -370,8 +370,9 @@ public final class DumbwaiterYoung {
         return latestBargain.settle(house, state);
     }
 
+    // The CHILDREN are those of the latest bargain(), whatever TOWER came since: it left NONE for all others.
     public int bargained(int c) {
-        return isChild(c) ? latestBargain.floorOf[c] : NONE;
+        return c >= 0 && c < MOST_CHILDREN ? latestBargain.floorOf[c] : NONE;
     }
 
     // ---- covers ----
@@ -477,12 +478,14 @@ public final class DumbwaiterYoung {
         if (reader.failed()) {
             return -2 - reader.faultPlace;
         }
-        if (lives == 1) {
-            history.push(state);
-            return latestBook.live(house, state);
-        }
         trial.copyFrom(state);
-        return latestBook.live(house, trial);
+        int wrong = latestBook.live(house, trial);
+        // A BOOK of which no LINE was lived is nothing that could be undone.
+        if (lives == 1 && latestBook.rightLines > 0) {
+            history.push(state);
+            state.copyFrom(trial);
+        }
+        return wrong;
     }
 
     public int told(int what) {

@@ -28,7 +28,43 @@ public final class BargainTest {
         CHECK.due("31: no such one", x.bargained(-1), -1);
         Check.tower(x, "child a 1;");
         CHECK.due("31: a FLOOR of an earlier TOWER", x.bargained(0), 2);
-        CHECK.due("31: no such one now", x.bargained(1), -1);
+        CHECK.due("31: a CHILD that the TOWER now has not", x.bargained(1), 1);
+    }
+
+    /** What the latest bargain() told stays, whatever becomes of the TOWER. */
+    private static void staysTold() {
+        DumbwaiterYoung x = Check.with("floor f music 1;child a 1;");
+        x.image(0);
+        Check.tower(x, "floor a music 1;floor b music 2;floor c music 3;floor d music 4;floor e music 5;floor f music 6;"
+            + "child g 1;child h 1;child i 1;child j 1;child k 1;child l 1;law music 9;");
+        CHECK.due("30: six pairs", x.bargain(), 6);
+        allSix(x, "at once");
+        Check.tower(x, "floor f");
+        allSix(x, "behind a FAULT");
+        Check.tower(x, "");
+        allSix(x, "in an empty TOWER");
+        x.restore(0);
+        allSix(x, "behind restore()");
+        CHECK.due("30: one pair", x.bargain(), 1);
+        CHECK.due("31: the one", x.bargained(0), 1);
+        for (int c = 1; c < 6; c++) {
+            CHECK.due("31: none by the latest", x.bargained(c), -1);
+        }
+        Check.tower(x, "");
+        CHECK.due("30: none", x.bargain(), 0);
+        CHECK.due("31: none by the latest", x.bargained(0), -1);
+        x.restore(0);
+        CHECK.due("31: the CHILD is there, but was not then", x.bargained(0), -1);
+    }
+
+    private static void allSix(DumbwaiterYoung x, String when) {
+        for (int c = 0; c < 6; c++) {
+            CHECK.due("31: bargained(" + c + ") " + when, x.bargained(c), 6 - c);
+        }
+        CHECK.due("31: no such one " + when, x.bargained(6), -1);
+        CHECK.due("31: no such one " + when, x.bargained(-1), -1);
+        CHECK.due("31: no such one " + when, x.bargained(Integer.MAX_VALUE), -1);
+        CHECK.due("31: no such one " + when, x.bargained(Integer.MIN_VALUE), -1);
     }
 
     private static void served() {
@@ -166,6 +202,7 @@ public final class BargainTest {
 
     public static void main(String[] args) {
         plainOnes();
+        staysTold();
         served();
         bestForChildren();
         allPairings();

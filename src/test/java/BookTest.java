@@ -120,7 +120,42 @@ public final class BookTest {
         CHECK.due("18: the BOOK that was lived", x.undo(), 0);
         CHECK.due("36: WRONG in the first LINE", Check.book(x, "back x;serve x;", 1), 0);
         toldIs(x, "WRONG in the first LINE", 41, 0, 0, 0);
-        CHECK.due("18: it was lived, as far as that is", x.undo(), 0);
+        CHECK.due("18: nothing of it was lived", x.undo(), -1);
+    }
+
+    /** A BOOK of which no LINE was lived leaves what can be undone as it is. */
+    private static void nothingLived() {
+        DumbwaiterYoung x = new DumbwaiterYoung();
+        CHECK.due("36: an empty one", x.book(1), -1);
+        CHECK.due("18: nothing was lived", x.undo(), -1);
+        x = Check.with(Check.HOUSE);
+        x.hang(0);
+        String was = Check.all(x);
+        String[] unlived = {"", " ", "hang ned;hour 3;", "take sam;", "send tom cellar;hour 1;", "serve ann;", "back bob;"};
+        int[] due = {-1, -1, 0, 0, 0, 0, 0};
+        for (int i = 0; i < unlived.length; i++) {
+            CHECK.due("36: " + unlived[i], Check.book(x, unlived[i], 1), due[i]);
+            CHECK.yes("36: nothing changed by " + unlived[i], was.equals(Check.all(x)));
+        }
+        CHECK.due("18: only the hanging", x.undo(), 0);
+        CHECK.due("18: he does not hang", x.uncle(0, 1), 0);
+        for (int i = 0; i < 9; i++) {
+            x.hours(1);
+            Check.book(x, "", 1);
+            Check.book(x, "take ned;", 1);
+        }
+        CHECK.due("18: eight are kept, the BOOKS push none out", x.undo(), 7);
+        CHECK.due("18: the latest HOUR", x.now(0), 8);
+        CHECK.due("36: one LINE, then a WRONG one", Check.book(x, "hang ned;hang ned;", 1), 1);
+        CHECK.due("18: one LINE was lived", x.undo(), 7);
+        CHECK.due("18: he does not hang", x.uncle(0, 1), 0);
+        CHECK.due("18: the eighth HOUR stays", x.now(0), 8);
+        for (int i = 0; i < 7; i++) {
+            x.hours(60);
+        }
+        CHECK.due("36: no HOUR is left", Check.book(x, "hour 1;hang ned;", 1), 0);
+        CHECK.due("18: the latest hours(), not the BOOK", x.undo(), 7);
+        CHECK.due("18: as it was", x.now(0), 368);
     }
 
     private static void long400(DumbwaiterYoung x) {
@@ -145,6 +180,7 @@ public final class BookTest {
         judged();
         lived();
         faults();
+        nothingLived();
         CHECK.finish();
     }
 }
