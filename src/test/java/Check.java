@@ -1,4 +1,7 @@
+import java.io.IOException;
 import java.nio.charset.StandardCharsets;
+import java.nio.file.Files;
+import java.nio.file.Path;
 import java.util.NoSuchElementException;
 
 /** What the tests share: it counts answers that are not as due, and puts texts on tapes. */
@@ -11,6 +14,9 @@ final class Check {
     private final String name;
     private int asked = 0;
     private int wrong = 0;
+    private int edges = 0;
+    private String heading = "";
+    private String document = null;
 
     Check(String name) {
         this.name = name;
@@ -20,7 +26,7 @@ final class Check {
         asked++;
         if (got != want) {
             wrong++;
-            System.out.println(name + ": " + what + " answered " + got + ", due is " + want);
+            System.out.println(name + ": " + heading + what + " answered " + got + ", due is " + want);
         }
     }
 
@@ -32,8 +38,31 @@ final class Check {
         due(what, got ? 1 : 0, 0);
     }
 
+    /** The promise and the words of the document, as they stand there, that the next answers are about. */
+    void about(int promise, String words) {
+        heading = promise + ": '" + words + "': ";
+        edges++;
+        if (document == null) {
+            document = plain(readDocument());
+        }
+        yes("it stands in DOC.md", document.isEmpty() || document.contains(plain(words)));
+    }
+
+    private static String plain(String text) {
+        return text.replaceAll("\\s+", " ");
+    }
+
+    /** The document, or nothing where a checkout has none beside it. */
+    private static String readDocument() {
+        try {
+            return Files.readString(Path.of("../shared/DOC.md"));
+        } catch (IOException e) {
+            return "";
+        }
+    }
+
     void finish() {
-        System.out.println(name + ": " + asked + " answers, " + wrong + " not as due");
+        System.out.println(name + ": " + (edges > 0 ? edges + " edges, " : "") + asked + " answers, " + wrong + " not as due");
         if (wrong != 0) {
             System.exit(1);
         }
