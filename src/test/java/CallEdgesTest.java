@@ -249,6 +249,7 @@ public final class CallEdgesTest {
         for (int what : none) {
             CHECK.due("outside: now(" + what + ")", x.now(what), -1);
         }
+        bits();
         CHECK.about(11, "BALANCE: WEIGHTS of all UNCLES that hang.");
         x.hang(1);
         CHECK.due("all", x.now(3), 4);
@@ -256,6 +257,23 @@ public final class CallEdgesTest {
         CHECK.due("one", x.now(3), 3);
         x.take(1);
         CHECK.due("none", x.now(3), 0);
+    }
+
+    private static void bits() {
+        CHECK.about(11, "4 who is served, 5 who LACKS nothing and is not served, 6 who is on a FLOOR, as bits each");
+        DumbwaiterYoung x = Check.with("floor a music 1;floor b music 1;floor c music 1;floor d music 1;floor e music 1;floor f music 1;"
+            + "child p 1;child q 1;child r 1;child s 1;child t 1;child u 1;rope 500;");
+        CHECK.due("all are ready", x.now(5), 63);
+        for (int c = 0; c < 6; c++) {
+            x.send(c, c + 1);
+            CHECK.due("on a FLOOR, up to " + c, x.now(6), (2 << c) - 1);
+        }
+        for (int c = 0; c < 6; c++) {
+            x.serve(c);
+            CHECK.due("served, up to " + c, x.now(4), (2 << c) - 1);
+            CHECK.due("ready still, behind " + c, x.now(5), 64 - (2 << c));
+            CHECK.due("on a FLOOR still, behind " + c, x.now(6), 64 - (2 << c));
+        }
     }
 
     private static void images() {

@@ -184,6 +184,26 @@ public final class DeedEdgesTest {
         CHECK.due("AGE stays", Check.child(x, 0, 2), 4);
         CHECK.due("WEIGHT stays", Check.child(x, 0, 1), 2);
         CHECK.due("falls stay", Check.child(x, 0, 4), 0);
+        othersStay();
+    }
+
+    private static void othersStay() {
+        DumbwaiterYoung x = Check.with("floor a manners 1 cold;floor b letters 1 cold;child p 1;child q 1;child r 1;child s 1;child t 1;child u 1;rope 500;");
+        for (int c = 0; c < 6; c++) {
+            x.send(c, 1);
+            x.hours(1);
+            x.send(c, 2);
+            x.hours(1);
+            x.send(c, 0);
+            x.serve(c);
+        }
+        for (int c = 0; c < 6; c++) {
+            CHECK.due("back(" + c + ")", x.back(c), 0);
+            for (int other = 0; other < 6; other++) {
+                int left = other > c ? 112 : 0;
+                CHECK.due("back(" + c + "), what " + other + " has", x.has(other, 0) * 100 + x.has(other, 3) * 10 + Check.child(x, other, 3), left);
+            }
+        }
     }
 
     private static void hours() {
@@ -292,6 +312,15 @@ public final class DeedEdgesTest {
         y.send(1, 0);
         y.hours(1);
         CHECK.due("the cellar is no FLOOR: no talk", y.has(1, 1), 1);
+        DumbwaiterYoung z = Check.with("floor a music 1;floor b faith 1;floor c manners 9;child p 1;child q 1;child r 1;");
+        z.send(2, 3);
+        z.hours(1);
+        z.send(2, 0);
+        z.send(0, 1);
+        z.send(1, 2);
+        z.hours(1);
+        CHECK.due("nobody hears of one in the cellar", z.has(0, 0) + z.has(1, 0), 0);
+        CHECK.due("1 and 0 of either: nobody hears", z.has(0, 2) + z.has(1, 1), 0);
         pairs();
     }
 
@@ -368,7 +397,30 @@ public final class DeedEdgesTest {
         }
         CHECK.due("none is", x.undo(), -1);
         CHECK.yes("nothing changes then", was[0].equals(Check.all(x)));
+        undoOfAll();
         over();
+    }
+
+    /** All that an act may change is as it was: WEIGHT, AGE, SHYNESS, falls, GIFTS, WEAR, ropes, FLOORS passed, the HOUR. */
+    private static void undoOfAll() {
+        DumbwaiterYoung x = Check.with("floor f music 3 cold;floor g faith 2 cold;child c 4;child d 3;uncle u 1;rope 10;grow 1;");
+        x.send(0, 1);
+        x.send(1, 1);
+        x.hours(1);
+        String was = Check.all(x);
+        x.send(1, 2);
+        CHECK.due("it fell", Check.child(x, 1, 4), 1);
+        CHECK.due("the fall is undone", x.undo(), 2);
+        CHECK.yes("as it was ahead of the fall", was.equals(Check.all(x)));
+        x.hours(3);
+        CHECK.due("HOURS are undone", x.undo(), 2);
+        CHECK.yes("as it was ahead of the HOURS", was.equals(Check.all(x)));
+        Check.book(x, "hour 2;send d g;hang u;serve c;hour 1;", 1);
+        CHECK.due("the BOOK is undone", x.undo(), 2);
+        CHECK.yes("as it was ahead of the BOOK", was.equals(Check.all(x)));
+        x.drawn(20, 5);
+        CHECK.due("what was drawn is undone", x.undo(), 2);
+        CHECK.yes("as it was ahead of the draws", was.equals(Check.all(x)));
     }
 
     private static void act(DumbwaiterYoung x, int which) {
@@ -446,6 +498,9 @@ public final class DeedEdgesTest {
         Check.sentence(x, "ready");
         CHECK.yes("a rope RAN", x.now(2) > 0);
         CHECK.yes("one is served", x.now(4) != 0);
+        x.send(1, Check.child(x, 1, 0) == 0 ? 1 : 0);
+        CHECK.yes("there is WEAR", x.now(1) > 0);
+        CHECK.yes("FLOORS were passed", x.now(7) > 0);
         CHECK.due("the same text again", Check.tower(x, text), 9);
         CHECK.yes("all is new", fresh.equals(Check.all(x)));
         CHECK.due("no SENTENCE", x.said(-1), -1);

@@ -154,7 +154,7 @@ public final class QuestionEdgesTest {
         orderIs(x, "though it is on another that gives as much", 1, 2);
         CHECK.about(21, "from where it is, the fewest FLOORS passed in all; of like ones the first: FLOOR by FLOOR the least");
         DumbwaiterYoung y = Check.with("floor a manners 1;floor b music 1;floor c faith 1;floor d letters 1;child p 1;rope 500;law manners 9;law music 9;law faith 9;law letters 9;");
-        y.plan(0);
+        CHECK.due("9 HOURS of each", y.plan(0), 36);
         orderIs(y, "from the cellar up", 4, 1, 2, 3, 4);
         y.send(0, 4);
         y.plan(0);
@@ -169,9 +169,28 @@ public final class QuestionEdgesTest {
         z.send(0, 2);
         z.plan(0);
         orderIs(z, "both ways alike: the least first", 3, 1, 3);
+        otherOrders();
         CHECK.about(22, "FLOORS passed by that");
         Check.tower(z, "");
         orderIs(z, "what was told stays", 3, 1, 3);
+    }
+
+    /** The same FLOORS, however the GIFTS lie on them. */
+    private static void otherOrders() {
+        String[] gifts = {"manners", "music", "faith", "letters"};
+        for (int code = 0; code < 256; code++) {
+            int[] on = {code & 3, code >> 2 & 3, code >> 4 & 3, code >> 6};
+            int seen = 1 << on[0] | 1 << on[1] | 1 << on[2] | 1 << on[3];
+            if (seen == 15) {
+                DumbwaiterYoung x = Check.with("floor a " + gifts[on[0]] + " 1;floor b " + gifts[on[1]] + " 1;floor c " + gifts[on[2]] + " 1;floor d " + gifts[on[3]]
+                    + " 1;child p 1;rope 500;law manners 2;law music 3;law faith 4;law letters 5;");
+                CHECK.due("HOURS, order " + code, x.plan(0), 14);
+                orderIs(x, "order " + code, 4, 1, 2, 3, 4);
+                x.send(0, 3);
+                x.plan(0);
+                orderIs(x, "from the third, order " + code, 4, 3, 4, 2, 1);
+            }
+        }
     }
 
     private static void been() {
@@ -238,10 +257,12 @@ public final class QuestionEdgesTest {
         CHECK.due("ahead of any", x.ask(), -1);
         Check.been(x, 1, 0, 1, 0, 0);
         CHECK.due("a been() of 0 is none", x.ask(), -1);
+        CHECK.due("a been() of 0 is none", x.beenAt(0), -1);
         Check.been(x, 5, 0, 0, 0, 0);
         CHECK.due("nor is NONE", x.ask(), -1);
+        Check.been(x, 1, 0, 3, 0, 0);
+        CHECK.due("by a single row: the first HOUR", x.ask(), 0);
         CHECK.about(24, "rows of FLOORS (0: the cellar), one for each HOUR");
-        CHECK.due("a been() of 0 is none", x.beenAt(0), -1);
         Check.been(x, 3, 0, 5, 0, 0);
         rowIs(x, 0, 1, 2);
         CHECK.about(24, "the first: HOUR by HOUR the least");
@@ -341,6 +362,7 @@ public final class QuestionEdgesTest {
             }
             CHECK.due("as it comes, of " + ropes[i], sent, due[i]);
         }
+        CHECK.due("1 each of 10, the least there can be", Check.with("floor a music 1;child c 1;rope 10;").holds(0, 1), 10);
         DumbwaiterYoung x = Check.with("floor a music 1;floor b music 1;child c 5;child d 9;uncle u 5;rope 20;law faith 1;");
         CHECK.due("the first time", x.holds(1, 2) * 10 + x.holds(1, 1), 23);
         x.send(0, 2);
@@ -391,6 +413,21 @@ public final class QuestionEdgesTest {
         CHECK.due("a served one has itself", x.web(3), 8);
         x.send(1, 0);
         CHECK.due("nobody by the cellar", x.web(1) * 100 + x.web(4), 216);
+        againstNumbers();
+    }
+
+    /** Six in a row, up and down by their numbers: the last comes by five others. */
+    private static void againstNumbers() {
+        for (int way = 0; way <= 1; way++) {
+            DumbwaiterYoung x = Check.with("floor a music 1;floor b music 1;floor c music 1;floor d music 1;floor e music 1;floor f music 1;"
+                + "child p 1;child q 1;child r 1;child s 1;child t 1;child u 1;rope 500;");
+            for (int c = 0; c < 6; c++) {
+                x.send(c, way == 0 ? 6 - c : c + 1);
+            }
+            for (int c = 0; c < 6; c++) {
+                CHECK.due("way " + way + ": web(" + c + ")", x.web(c), 63);
+            }
+        }
     }
 
     private static void bargain() {
@@ -466,6 +503,43 @@ public final class QuestionEdgesTest {
         CHECK.due("by the latest", x.bargained(0), 1);
         Check.tower(x, "");
         CHECK.due("in another TOWER, too", x.bargained(0), 1);
+        mostOfBoth();
+    }
+
+    private static String eightAndSix() {
+        StringBuilder text = new StringBuilder();
+        for (int f = 0; f < 8; f++) {
+            text.append("floor ").append((char) ('a' + f)).append(" music ").append(f + 1).append(';');
+        }
+        for (int c = 0; c < 6; c++) {
+            text.append("child ").append((char) ('p' + c)).append(" 1;");
+        }
+        return text.toString();
+    }
+
+    private static void mostOfBoth() {
+        CHECK.about(30, "such that no CHILD and FLOOR like one another better than what they have (somebody is better than nobody)");
+        DumbwaiterYoung x = Check.with(eightAndSix());
+        CHECK.due("8 and 6", x.bargain(), 6);
+        for (int c = 0; c < 6; c++) {
+            CHECK.due("all like the first FLOORS, these the first CHILDREN: " + c, x.bargained(c), c + 1);
+        }
+        StringBuilder likes = new StringBuilder(eightAndSix());
+        for (int f = 0; f < 6; f++) {
+            for (int c = 1; c < 6; c++) {
+                likes.append("likes ").append((char) ('a' + f)).append(' ').append((char) ('p' + c)).append(' ').append(c).append(';');
+            }
+        }
+        Check.tower(x, likes.toString());
+        CHECK.due("8 and 6, twice", x.bargain() * 10 + x.bargain(), 66);
+        for (int c = 0; c < 6; c++) {
+            CHECK.due("these like the last CHILDREN: " + c, x.bargained(c), 6 - c);
+        }
+        Check.tower(x, eightAndSix() + "law music 9;likes h u 9;likes g u 9;");
+        CHECK.due("8 and 6", x.bargain(), 6);
+        CHECK.due("the last CHILD has the last FLOOR", x.bargained(5), 8);
+        CHECK.due("the first CHILD has the next", x.bargained(0), 7);
+        CHECK.due("the fifth CHILD has the third", x.bargained(4), 3);
     }
 
     public static void main(String[] args) {

@@ -78,6 +78,11 @@ public final class SentenceEdgesTest {
         fine("20 with not and brackets", "ready" + " or not ready".repeat(8) + " or (fell=0)" + " or ready", 20);
         faulty("21: each bracket is a ONE", "ready" + " or not ready".repeat(9) + " or (ready)", 127, 4);
         faulty("21: what 'not' is of", "ready" + " or ready".repeat(18) + " or not ready", 175, 4);
+        said("number=9" + " or shy=9".repeat(18) + " or number=2", 20, 4);
+        said("number=2" + " and shy<9".repeat(18) + " and shy=9", 20, 0);
+        said("number=2" + " and shy<9".repeat(17) + " or number=3 and shy=0", 20, 12);
+        said("number=1 and (number<9)", 3, 2);
+        said("number=1 and (number<9 and (number<9 or number>9))", 6, 2);
         CHECK.about(5, "a 21st ONE, a ninth within (at its first TOKEN)");
         String twenty = "ready" + " or ready".repeat(19);
         String[] begins = {"not", "(", "served", "ready", "talks", "on", "lacks", "manners", "music", "faith", "letters", "weight", "shy", "fell", "number"};

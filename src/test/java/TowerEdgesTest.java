@@ -223,6 +223,9 @@ public final class TowerEdgesTest {
         x = fine("1 of the second", "floor f music 1;child c 1;child d 1;likes f d 1;", 4);
         x.bargain();
         CHECK.due("1 is more than 0", x.bargained(1), 1);
+        Check.tower(x, "floor f music 1;child c 1;child d 1;");
+        x.bargain();
+        CHECK.due("0 without, though an earlier TOWER told it", x.bargained(0), 1);
         x = fine("8 and 9", "floor f music 1;child c 1;child d 1;likes f c 8;likes f d 9;", 5);
         x.bargain();
         CHECK.due("9 is more than 8", x.bargained(1), 1);
