@@ -398,7 +398,32 @@ public final class DeedEdgesTest {
         CHECK.due("none is", x.undo(), -1);
         CHECK.yes("nothing changes then", was[0].equals(Check.all(x)));
         undoOfAll();
+        roundAndRound();
         over();
+    }
+
+    /** Acts and undoing by turns, so that what is kept goes round many times: against a row of HOURS, of which 8 are kept. */
+    private static void roundAndRound() {
+        CHECK.about(18, "how many more can be (8 at most are kept); NONE: none is.");
+        DumbwaiterYoung x = Check.with("child c 1;");
+        java.util.ArrayDeque<Integer> kept = new java.util.ArrayDeque<>();
+        int[] turns = {3, 2, 8, 8, 1, 1, 1, 9, 3, 5, 12, 4, 2, 7, 5, 9, 9, 10, 8, 1, 11, 6, 6, 9};
+        for (int turn = 0; turn < turns.length; turn++) {
+            for (int i = 0; i < turns[turn]; i++) {
+                if (turn % 2 == 0) {
+                    kept.addLast(x.now(0));
+                    x.hours(1 + turn % 3);
+                    if (kept.size() > 8) {
+                        kept.removeFirst();
+                    }
+                } else {
+                    Integer was = kept.isEmpty() ? Integer.valueOf(x.now(0)) : kept.removeLast();
+                    boolean none = x.now(0) == was;
+                    CHECK.due("turn " + turn + ", " + i, x.undo(), none ? -1 : kept.size());
+                    CHECK.due("turn " + turn + ", " + i + ": the HOUR", x.now(0), was);
+                }
+            }
+        }
     }
 
     /** All that an act may change is as it was: WEIGHT, AGE, SHYNESS, falls, GIFTS, WEAR, ropes, FLOORS passed, the HOUR. */

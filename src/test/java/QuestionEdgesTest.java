@@ -108,6 +108,12 @@ public final class QuestionEdgesTest {
         CHECK.due("9 by 9 are 1", planFirst(9, 9), 1);
         CHECK.due("10 by 9 are 2", planFirst(9, 10), 2);
         CHECK.due("60 by 1", planFirst(1, 60), 60);
+        DumbwaiterYoung t = Check.with("floor a music 9;floor b music 1;floor c faith 1;child p 1;child q 1;law music 18;law faith 3;");
+        t.send(0, 1);
+        t.send(1, 2);
+        CHECK.due("2 and 3, whoever talks", t.plan(1), 5);
+        t.send(1, 3);
+        CHECK.due("wherever it is", t.plan(1), 5);
         x.send(0, 1);
         x.hours(1);
         CHECK.due("what it has is not lacking", x.plan(0), 1);
@@ -279,8 +285,16 @@ public final class QuestionEdgesTest {
         rowIs(x, 1);
         Check.tower(x, "");
         rowIs(x, 1);
-        CHECK.about(25, "(of like ones the first)");
-        CHECK.due("each HOUR leaves as many: the first", x.ask(), 0);
+        CHECK.about(25, "the HOUR of which the greatest number of these that may still be left is the least, if one hears where it was then (of like ones the first)");
+        // Rows stay rows when their HOURS change places, so that each HOUR leaves as many.
+        Check.tower(x, "floor a music 2;floor b music 3;floor c music 5;");
+        for (int n = 1; n <= 4; n++) {
+            for (int music = 0; music <= 20; music++) {
+                if (Check.been(x, n, 0, music, 0, 0) > 0) {
+                    CHECK.due("each HOUR leaves as many: the first, of " + n + " for " + music, x.ask(), 0);
+                }
+            }
+        }
     }
 
     private static void rowIs(DumbwaiterYoung x, int... row) {
