@@ -295,6 +295,12 @@ public final class QuestionEdgesTest {
                 }
             }
         }
+        DumbwaiterYoung y = new DumbwaiterYoung();
+        for (int i = 0; i < 3; i++) {
+            Check.been(y, 1, 0, 0, 0, 0);
+        }
+        Check.been(y, 2, 0, 0, 0, 0);
+        CHECK.due("by the latest alone: what earlier ones heard of the first HOUR does not count", y.ask(), 0);
     }
 
     private static void rowIs(DumbwaiterYoung x, int... row) {
