@@ -69,6 +69,22 @@ public final class FaceTest {
         }
     }
 
+    /** Rule 11: how many classes, and fields of each beside its constants; rule 5: no static field that is not final. */
+    private static void sizes(Check check) {
+        List<Class<?>> classes = new ArrayList<>(List.of(DumbwaiterYoung.class.getDeclaredClasses()));
+        classes.add(DumbwaiterYoung.class);
+        check.yes("some twelve classes", classes.size() <= 12);
+        for (Class<?> owner : classes) {
+            int fields = 0;
+            for (Field f : owner.getDeclaredFields()) {
+                boolean isStatic = Modifier.isStatic(f.getModifiers());
+                fields += isStatic ? 0 : 1;
+                check.yes(f + " is final, if it is static", !isStatic || Modifier.isFinal(f.getModifiers()));
+            }
+            check.yes(owner + " has some twenty fields", fields <= 20);
+        }
+    }
+
     private static void source(Check check) throws IOException {
         Path path = Path.of("src/main/java/DumbwaiterYoung.java");
         String text = Files.readString(path);
@@ -87,6 +103,7 @@ public final class FaceTest {
     public static void main(String[] args) throws IOException {
         Check check = new Check("FaceTest");
         face(check);
+        sizes(check);
         source(check);
         check.finish();
     }
